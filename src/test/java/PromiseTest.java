@@ -239,6 +239,16 @@ public final class PromiseTest {
         spans(tide, 0, 0, 0, 0, 20000, 0, 20000);
         spans(tide, 100000, -100000, 20000, 20000, 20000, 20000, 20000);
         spans(tide, -100000, 100000, 0, -1, -1, -1, -1);
+
+        TideDepths seconds = flat();
+        seconds.observe(1000, 10);
+        seconds.observe(1300, -10);
+        seconds.observe(1301, 10);
+        seconds.observe(1900, -10);
+        seconds.observe(1901, 4);
+        spans(seconds, 0, 5, 0, 1000, 1299, 1301, 1899);
+        spans(seconds, 0, -9, 0, 0, 1299, 1901, 20000);
+        spans(seconds, 0, 2, 1900, 1901, 3100, 1901, 3100);
     }
 
     private static void spans(TideDepths tide, long base, long need, long from, long... want) {
@@ -324,7 +334,18 @@ public final class PromiseTest {
         }
         for (int far : new int[] {-1, 65, FAR_INTS[0], FAR_INTS[1]}) {
             Check.throwing("cosine(" + far + ")", ARRAY_INDEX, () -> tide.cosine(far));
+            Check.due("cosine(" + far + ") thrown by the machine", 0, () -> ofTheMachine(tide, far));
         }
+    }
+
+    /** The machine's own exceptions tell the index; those of the class are a written text. */
+    private static int ofTheMachine(TideDepths tide, int i) {
+        try {
+            tide.cosine(i);
+        } catch (ArrayIndexOutOfBoundsException e) {
+            return e.getMessage().contains(String.valueOf(i)) ? 1 : 0;
+        }
+        return 1;
     }
 
     private static void draft() {
@@ -430,6 +451,12 @@ public final class PromiseTest {
         tide.place(1000000, 100000);
         sails(tide, 0, 10000, 100, -1, -1);
         sails(tide, 0, 1, 100, -1, -1);
+        TideDepths here = withTurns(100, 0, 200, 10);
+        here.place(0, 0);
+        sails(here, 0, 1, 200, 200, 200);
+        sails(here, 9, 66, 101, 180, 200);
+        sails(here, 10, 66, 100, 200, 200);
+        sails(here, 10, 67, 100, -1, -1);
     }
 
     private static void sailWithSquat() {
