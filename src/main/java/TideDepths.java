@@ -297,19 +297,10 @@ public final class TideDepths {
         return hasTable() && isWithin(time, firstSecond(), lastSecond());
     }
 
-    private int turnNotBehind(long time) {
-        for (int i = turns - 1; i >= 0; i--) {
-            if (turnTimes[i] <= time) {
-                return i;
-            }
-        }
-        return NONE;
-    }
-
     // Going from the last one down gives, of several of one time, the last told.
-    private int observationNotBehind(long time) {
-        for (int i = observations - 1; i >= 0; i--) {
-            if (observedTimes[i] <= time) {
+    private static int lastNotBehind(long time, long[] times, int told) {
+        for (int i = told - 1; i >= 0; i--) {
+            if (times[i] <= time) {
                 return i;
             }
         }
@@ -321,7 +312,7 @@ public final class TideDepths {
     }
 
     private long tableHeight(long time) {
-        int i = turnNotBehind(time);
+        int i = lastNotBehind(time, turnTimes, turns);
         if (i < 0) {
             return 0;
         }
@@ -347,7 +338,7 @@ public final class TideDepths {
     }
 
     private long correction(long time) {
-        int i = observationNotBehind(time);
+        int i = lastNotBehind(time, observedTimes, observations);
         if (i < 0) {
             return 0;
         }
@@ -361,14 +352,14 @@ public final class TideDepths {
 
     /** The last second up to which, from this one on, the height only rises or only falls. */
     private long stretchEnd(long time) {
-        int i = turnNotBehind(time);
+        int i = lastNotBehind(time, turnTimes, turns);
         long turnsAt = i + 1 < turns ? turnTimes[i + 1] : lastSecond();
         return Math.min(turnsAt, correctionEnd(time));
     }
 
     private long correctionEnd(long time) {
         long end = LATEST_TIME;
-        int i = observationNotBehind(time);
+        int i = lastNotBehind(time, observedTimes, observations);
         if (i + 1 < observations) {
             end = observedTimes[i + 1] - 1;
         }
