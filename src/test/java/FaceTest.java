@@ -55,7 +55,8 @@ public final class FaceTest {
             }
         }
         Check.report("the face", new TreeSet<>(FACE).toString(), shown.toString());
-        Check.report("the class", "public final", Modifier.toString(TideDepths.class.getModifiers()));
+        String how = Modifier.toString(TideDepths.class.getModifiers());
+        Check.report("the class", "public final", how);
         hiddenNames.retainAll(shownNames);
         Check.report("private methods with public names", "[]", hiddenNames.toString());
         Check.end();

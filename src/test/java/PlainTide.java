@@ -6,9 +6,15 @@ final class PlainTide {
     private record Pair(long first, long second) {
     }
 
+    static final int[] COSINE = {
+        0, 20, 79, 177, 315, 491, 705, 958, 1247, 1573, 1935, 2331, 2761, 3224, 3719, 4244, 4799,
+        5381, 5990, 6624, 7282, 7961, 8661, 9379, 10114, 10864, 11628, 12403, 13188, 13980, 14778,
+        15580, 16384, 17188, 17990, 18788, 19580, 20365, 21140, 21904, 22654, 23389, 24107, 24807,
+        25486, 26144, 26778, 27387, 27969, 28524, 29049, 29544, 30007, 30437, 30833, 31195, 31521,
+        31810, 32063, 32277, 32453, 32591, 32689, 32748, 32768};
+
     private static final long[] SQUATS = {0, 3, 11, 24, 43, 68, 100};
 
-    private final TideDepths cosines = new TideDepths();
     private final List<Pair> turns = new ArrayList<>();
     private final List<Pair> observations = new ArrayList<>();
     private final List<Pair> places = new ArrayList<>();
@@ -170,8 +176,8 @@ final class PlainTide {
         long h1 = turns.get(behind).second();
         long x = 64 * (t - t0);
         int i = (int) Math.floorDiv(x, t1 - t0);
-        long ci = cosines.cosine(i);
-        long k = ci + Math.floorDiv((cosines.cosine(i + 1) - ci) * (x - i * (t1 - t0)), t1 - t0);
+        long ci = COSINE[i];
+        long k = ci + Math.floorDiv((COSINE[i + 1] - ci) * (x - i * (t1 - t0)), t1 - t0);
         return h0 + Math.floorDiv((h1 - h0) * k, 32768L);
     }
 

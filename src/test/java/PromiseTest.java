@@ -10,13 +10,6 @@ public final class PromiseTest {
     private static final long[] FAR = {Long.MIN_VALUE, Long.MAX_VALUE};
     private static final int[] FAR_INTS = {Integer.MIN_VALUE, Integer.MAX_VALUE};
 
-    private static final int[] COSINE = {
-        0, 20, 79, 177, 315, 491, 705, 958, 1247, 1573, 1935, 2331, 2761, 3224, 3719, 4244, 4799,
-        5381, 5990, 6624, 7282, 7961, 8661, 9379, 10114, 10864, 11628, 12403, 13188, 13980, 14778,
-        15580, 16384, 17188, 17990, 18788, 19580, 20365, 21140, 21904, 22654, 23389, 24107, 24807,
-        25486, 26144, 26778, 27387, 27969, 28524, 29049, 29544, 30007, 30437, 30833, 31195, 31521,
-        31810, 32063, 32277, 32453, 32591, 32689, 32748, 32768};
-
     public static void main(String[] args) {
         aNewObject();
         turn();
@@ -330,11 +323,11 @@ public final class PromiseTest {
         TideDepths tide = new TideDepths();
         for (int i = 0; i <= 64; i++) {
             int at = i;
-            Check.due("cosine(" + i + ")", COSINE[i], () -> tide.cosine(at));
+            Check.due("cosine(" + i + ")", PlainTide.COSINE[i], () -> tide.cosine(at));
         }
         for (int far : new int[] {-1, 65, FAR_INTS[0], FAR_INTS[1]}) {
             Check.throwing("cosine(" + far + ")", ARRAY_INDEX, () -> tide.cosine(far));
-            Check.due("cosine(" + far + ") thrown by the machine", 0, () -> ofTheMachine(tide, far));
+            Check.due("cosine(" + far + ") of the machine", 0, () -> ofTheMachine(tide, far));
         }
     }
 
