@@ -39,6 +39,7 @@ public final class PromiseEdgeTest {
         squatSpeeds();
         passingWays();
         passingSpeeds();
+        cosineNumbers();
         draftDensities();
         draftRoundedUp();
         placeNumbers();
@@ -375,6 +376,18 @@ public final class PromiseEdgeTest {
         Edge.refused("passing(5, 0)", ARITHMETIC, Made::tide, t -> t.passing(5, 0));
         Edge.asked("passing(1000000, 9999)", 10002, Made::tide, t -> t.passing(1000000, 9999));
         Edge.asked("passing(1000000, 10000)", 10000, Made::tide, t -> t.passing(1000000, 10000));
+    }
+
+    // Promise 8. ArrayIndexOutOfBoundsException if there is none such.
+    private static void cosineNumbers() {
+        for (int i : new int[] {-2, -1, 65, 66, Integer.MIN_VALUE, Integer.MAX_VALUE}) {
+            Edge.refused("cosine(" + i + ")", ArrayIndexOutOfBoundsException.class, Made::full,
+                t -> t.cosine(i));
+        }
+        for (int n = 0; n <= 64; n++) {
+            int i = n;
+            Edge.asked("cosine(" + i + ")", PlainTide.COSINE[i], Made::full, t -> t.cosine(i));
+        }
     }
 
     // Promise 9. Density 900 .. 1100. IllegalArgumentException if these can't be.
