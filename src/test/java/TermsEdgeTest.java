@@ -51,7 +51,9 @@ public final class TermsEdgeTest {
         halvedBySixHundredSeconds();
         halvedTowardsZero();
         halvedUntilNothingIsLeft();
+        theHeight();
         laterTurnsChangeNoDifference();
+        theDepth();
         notBelowTheNeed();
         spansAsLongAsCanBe();
         squatRows();
@@ -68,6 +70,7 @@ public final class TermsEdgeTest {
         theExceptionToldFirst();
         whatThrowsChangesNothing();
         whatIsAskedChangesNothing();
+        noneIsOneBelowNought();
         Check.end();
     }
 
@@ -534,6 +537,18 @@ public final class TermsEdgeTest {
             10800, 99999, 20000, 99999);
     }
 
+    // The HEIGHT is the table's height and the correction.
+    private static void theHeight() {
+        long[] corrections = {0, 0, 50, 50, 50, 50, -100, -100, -100, -100, -100};
+        long[] times = {100, 131, 132, 133, 164, 227, 228, 229, 292, 419, 420};
+        TideDepths table = Made.withTurns(100, -200, 164, 1000, 292, -500, 420, 800);
+        for (int i = 0; i < times.length; i++) {
+            long time = times[i];
+            Edge.asked("height(" + time + ")", table.height(time) + corrections[i], Made::tide,
+                t -> t.height(time));
+        }
+    }
+
     // Turns that are told later change no difference (the table's height at a time that it has ..).
     private static void laterTurnsChangeNoDifference() {
         TideDepths tide = Made.tide();
@@ -554,6 +569,23 @@ public final class TermsEdgeTest {
             Check.due("height(" + time + ") as before", before[i], () -> tide.height(time));
         }
         Check.due("height(421)", -99800, () -> tide.height(421));
+    }
+
+    // DEPTH of a base at a time: base + HEIGHT.
+    private static void theDepth() {
+        long[] bases = {5000, 4000, 6000};
+        long[] heights = {100, -200, 132, 450, 164, 1050, 228, 150, 292, -600, 420, 700};
+        for (int n = 0; n < heights.length; n += 2) {
+            long time = heights[n];
+            for (int i = 0; i < bases.length; i++) {
+                int place = i;
+                long due = bases[i] + heights[n + 1];
+                Edge.asked("depth(" + i + ", " + time + ")", due, Made::tide,
+                    t -> t.depth(place, time));
+                Edge.asked("span for that depth", time, Made::tide,
+                    t -> t.span(bases[place], due, time, 0));
+            }
+        }
     }
 
     // It SUFFICES for a need if it is not below it.
@@ -804,5 +836,14 @@ public final class TermsEdgeTest {
         Edge.asked("sail", 300, Made::tide, t -> t.sail(0, 100, 100, 1));
         Edge.asked("read", 1000, Made::tide, t -> t.read(1, 1));
         Edge.asked("count", 3, Made::tide, t -> t.count(2));
+    }
+
+    // The constants: NONE = -1: None.
+    private static void noneIsOneBelowNought() {
+        Check.due("NONE", -1, () -> TideDepths.NONE);
+        Edge.asked("no span", TideDepths.NONE, Made::tide, t -> t.span(0, 100000, 100, 0));
+        Edge.asked("no sailing", TideDepths.NONE, Made::tide, t -> t.sail(100000, 1, 100, 0));
+        Edge.asked("no table", TideDepths.NONE, Made::oneTurn, t -> t.count(3));
+        Edge.asked("no such count", TideDepths.NONE, Made::oneTurn, t -> t.count(5));
     }
 }
